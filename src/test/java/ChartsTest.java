@@ -36,6 +36,10 @@ final class ChartsTest {
         Hobhouse x = new Hobhouse();
         x.gear(24, 2000, 0, 20000);
         Check.is(0, () -> x.total(0));
+        x.chart(0, 0, -1);
+        Check.is(0, () -> x.total(0));
+        x.chart(0, 0, 1);
+        Check.is(0, () -> x.total(0));
         x.chart(0, 0, 5);
         x.chart(0, 12, -6);
         Check.is(5, () -> x.total(0));
@@ -67,13 +71,16 @@ final class ChartsTest {
         Check.is(13, () -> x.grade(0));
         Check.is(Check.NO_INDEX, () -> x.grade(1));
         Check.is(Check.NO_INDEX, () -> x.grade(-1));
-        // Each pitch is of grade 0, but 2 times 10 of them are a total of 20, of which a fourth is of grade 3.
+        // Each pitch is of grade 0, but 8 of them are a total of 16, of which a fourth is of grade 2.
         x.gear(20, 2000, 0, 20000);
-        for (int k = 0; k < 20; k++) {
-            x.chart(1, k, k < 10 ? 2 : -2);
+        for (int k = 0; k < 16; k++) {
+            x.chart(1, k, k < 8 ? 2 : -2);
         }
-        Check.is(20, () -> x.total(1));
-        Check.is(3, () -> x.grade(1));
+        Check.is(16, () -> x.total(1));
+        Check.is(2, () -> x.grade(1));
+        x.chart(1, 17, 2);
+        x.chart(1, 18, 2);
+        Check.is(2, () -> x.grade(1));
         // Twice a profile error of 5 is of grade 5.
         x.hob(2000, 1, 60000, 3);
         for (int i = 0; i < 5; i++) {

@@ -33,6 +33,13 @@ final class GearsTest {
         Check.is('m', () -> x.cause(0));
         Check.is(24, () -> x.setMachine(24, 59));
         Check.is('s', () -> x.cause(0));
+        Hobhouse y = new Hobhouse();
+        y.gear(24, 2000, 0, 20000);
+        y.chart(0, 0, 12);
+        // The part of 12 is 6, that of 24 is 12, and F is 11.
+        Check.is('s', () -> y.cause(0));
+        y.setMachine(24, 48);
+        Check.is('m', () -> y.cause(0));
     }
 
     private static void addGears() {
@@ -296,21 +303,30 @@ final class GearsTest {
     private static void balances() {
         Random random = new Random(2);
         for (int i = 0; i < 250; i++) {
-            Hobhouse x = new Hobhouse();
-            int one = 6 + random.nextInt(40);
-            int other = 6 + random.nextInt(i % 3 == 0 ? 195 : 30);
-            int module = 500 + random.nextInt(i % 2 == 0 ? 10 : 9501);
-            x.gear(one, module, 0, 5000);
-            x.gear(other, module, 0, 5000);
-            x.setShift(0, 3);
-            x.setShift(1, 4);
-            Object due = dueBalance(one, other, module);
-            Check.is(due, () -> x.balance(0, 1));
-            boolean isBalanced = due instanceof Long;
-            long shift = isBalanced ? (Long) due : 0;
-            Check.is(isBalanced ? shift : 3, () -> x.setShift(0, 0));
-            Check.is(isBalanced ? -shift : 4, () -> x.setShift(1, 0));
+            anyBalance(6 + random.nextInt(40), 6 + random.nextInt(i % 3 == 0 ? 195 : 30),
+                    500 + random.nextInt(i % 2 == 0 ? 10 : 9501));
         }
+        // With the shift that 9 teeth need at least, they are sharp; 10 teeth need 42.
+        for (int few = 8; few <= 10; few++) {
+            for (int other = 20; other <= 200; other += 15) {
+                anyBalance(few, other, 3000);
+                anyBalance(other, few, 3000);
+            }
+        }
+    }
+
+    private static void anyBalance(int one, int other, int module) {
+        Hobhouse x = new Hobhouse();
+        x.gear(one, module, 0, 5000);
+        x.gear(other, module, 0, 5000);
+        x.setShift(0, 3);
+        x.setShift(1, 4);
+        Object due = dueBalance(one, other, module);
+        Check.is(due, () -> x.balance(0, 1));
+        boolean isBalanced = due instanceof Long;
+        long shift = isBalanced ? (Long) due : 0;
+        Check.is(isBalanced ? shift : 3, () -> x.setShift(0, 0));
+        Check.is(isBalanced ? -shift : 4, () -> x.setShift(1, 0));
     }
 
     private static void balanceRefusals() {

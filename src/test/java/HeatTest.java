@@ -40,6 +40,11 @@ final class HeatTest {
         x.gear(91, 999, 0, 1777);
         x.cut(4, 1, 0);
         Check.is(27 + 1162, () -> x.harden(4, 2, true));
+        x.gear(200, 10000, 0, 99999);
+        x.hob(10000, 1, 200000, 20);
+        x.cut(5, 2, 0);
+        Check.is(600 + 20000, () -> x.harden(5, 4, false));
+        Check.is(1000, () -> x.caseOf(5));
     }
 
     private static void cleanness() {

@@ -22,6 +22,9 @@ final class OldGearsTest {
         Check.is(-50, () -> X.oldShift(6, 3500, 0));
         Check.is(Check.NO_ELEMENT, () -> X.oldModule(6, 3499, 0));
         Check.is(500, () -> X.oldModule(6, 3499, 1));
+        // A tip of 15750 is that of the module 1750 with a shift of 50, and of 2250 with one of -50.
+        Check.is(1750, () -> X.oldModule(6, 15750, 0));
+        Check.is(50, () -> X.oldShift(6, 15750, 0));
         int[][] wrong = {{5, 1000, 0}, {201, 1000, 0}, {6, 999, 0}, {6, 10000000, 0}, {6, 1000, -1}, {6, 1000, 10000}};
         for (int[] w : wrong) {
             Check.is(Check.BAD_ARGUMENT, () -> X.oldModule(w[0], w[1], w[2]));

@@ -9,6 +9,8 @@ final class SettingsTest {
         for (int i = 0; i < 60; i++) {
             anyBox(random, 4 + random.nextInt(i % 10 == 0 ? 13 : 4));
         }
+        anyBox(random, 16);
+        anyBox(random, 15);
         machineAndHobs();
         indexAndDifferential(random);
         refusals();
@@ -60,6 +62,10 @@ final class SettingsTest {
         Check.is(Check.BAD_ARGUMENT, () -> x.meets(1, 1, -1));
         Check.is(Check.BAD_ARGUMENT, () -> x.meets(1, 1, 1000000));
         Check.is(60, () -> x.change(9999, 1, 2));
+        Check.is(true, () -> x.meets(17, 12, 7353));
+        Check.is(false, () -> x.meets(17, 12, 7352));
+        Check.is(true, () -> x.meets(1, 1, 0));
+        Check.is(false, () -> x.meets(9999, 1, 900000));
         Check.is(20, () -> x.change(1, 9999, 0));
     }
 

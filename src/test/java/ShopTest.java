@@ -7,6 +7,7 @@ final class ShopTest {
         tools();
         routes();
         knownTimes();
+        alikeMachines();
         Random random = new Random(10);
         for (int i = 0; i < 100; i++) {
             anyShop(random);
@@ -97,6 +98,23 @@ final class ShopTest {
         x.toolsAt(2, 30);
         Check.is(50, () -> x.doneAt(0));
         Check.is(70, () -> x.doneAt(2));
+    }
+
+    /** Both machines end at 14; with the lowest one taken, the other one is left for a gear that comes at 8. */
+    private static void alikeMachines() {
+        Hobhouse x = new Hobhouse();
+        x.gear(20, 3000, 0, 20000);
+        x.gear(20, 3000, 0, 20000);
+        x.machine('h', 5);
+        x.machine('h', 7);
+        x.machine('f', 8);
+        x.toolsAt(0, 9);
+        x.toolsAt(1, 7);
+        x.route(0, 'h');
+        x.route(1, 'f');
+        x.route(1, 'h');
+        Check.is(14, () -> x.doneAt(0));
+        Check.is(15, () -> x.doneAt(1));
     }
 
     private static void anyShop(Random random) {

@@ -8,7 +8,9 @@ final class StrengthTest {
         for (int i = 0; i < 200; i++) {
             anyGear(random, i);
         }
+        pressedTeeth();
         sixthOfTheModule();
+        lifeOfOneTurn();
         groundCase();
         runs();
         runEdges();
@@ -82,6 +84,38 @@ final class StrengthTest {
             due = due * borne / torque;
         }
         Check.is(torque <= borne ? -1 : due, () -> x.life(0, torque));
+    }
+
+    /** Few teeth with a thin case give way to pressing first. */
+    private static void pressedTeeth() {
+        for (int teeth = 6; teeth < 11; teeth++) {
+            for (int width = 20000; width < 99999; width += 1777) {
+                Hobhouse x = new Hobhouse();
+                x.gear(teeth, 10000, 0, width);
+                x.hob(10000, 1, 200000, 20);
+                x.cut(0, 0, 0);
+                x.harden(0, 1, true);
+                Check.is(dueTorque(teeth, 10000, width, 300, 1000), () -> x.bears(0));
+            }
+        }
+    }
+
+    private static void lifeOfOneTurn() {
+        Hobhouse x = new Hobhouse();
+        x.gear(36, 2000, 0, 20000);
+        x.gear(36, 2000, 0, 20000);
+        x.hob(2000, 1, 60000, 20);
+        x.cut(0, 0, 0);
+        x.cut(1, 0, 0);
+        int torque = 187;
+        while (x.life(0, torque) > 1 && torque < 5000) {
+            torque += 10;
+        }
+        int most = torque;
+        Check.is(1, () -> x.life(0, most));
+        Check.is(2, () -> x.run(0, 1, most, 5));
+        Check.is(5000000, () -> x.damage(0));
+        Check.is(5000000, () -> x.damage(1));
     }
 
     /** Cases of 500 and of 707 at modules about six times as great; the sixth is cut. */

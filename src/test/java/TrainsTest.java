@@ -15,6 +15,9 @@ final class TrainsTest {
         bestOf(9999, 1, 6, 200);
         bestOf(1, 9999, 6, 200);
         bestOf(1, 1, 6, 6);
+        for (int i = 0; i < 100; i++) {
+            betweenTwoTrains(random);
+        }
         trainEdges();
         planetLetters();
         ringCounts();
@@ -35,6 +38,28 @@ final class TrainsTest {
         }
         Check.is(first, () -> X.bestPair(up, down, low, high));
         Check.is(second, () -> X.bestMate(up, down, low, high));
+    }
+
+    /** A ratio in the middle of two trains next to each other, by which both have the same error. */
+    private static void betweenTwoTrains(Random random) {
+        int low = 6 + random.nextInt(15);
+        int high = low + 2 + random.nextInt(8);
+        int a = low + random.nextInt(high - low + 1);
+        int b = low + random.nextInt(high - low + 1);
+        int c = 0;
+        int d = 1;
+        for (int one = low; one <= high; one++) {
+            for (int other = low; other <= high; other++) {
+                if (one * b > a * other && (c == 0 || one * d < c * other)) {
+                    c = one;
+                    d = other;
+                }
+            }
+        }
+        if (c > 0) {
+            int divisor = Check.divisor(a * d + c * b, 2 * b * d);
+            bestOf((a * d + c * b) / divisor, 2 * b * d / divisor, low, high);
+        }
     }
 
     private static boolean isBetter(int up, int down, int one, int other, int first, int second) {
@@ -127,6 +152,7 @@ final class TrainsTest {
     private static void ringCounts() {
         Check.is(3, () -> X.rings(20, 3, 400, 500));
         Check.is(1, () -> X.rings(20, 3, 420, 420));
+        Check.is(0, () -> X.rings(20, 3, 200, 200));
         Check.is(0, () -> X.rings(20, 3, 421, 449));
         Check.is(0, () -> X.rings(20, 3, 500, 400));
         // A ring of 41 has 685.7 times a hundredth as its ratio with a sun of 7, which is no whole number.
