@@ -28,20 +28,29 @@ final class Check {
     }
 
     static void is(Object due, Call call) {
-        same(2, due, answer(call));
+        same(due, answer(call));
     }
 
     static void equal(Object due, Object got) {
-        same(2, due, plain(got));
+        same(due, plain(got));
     }
 
-    private static void same(int depth, Object due, Object got) {
+    private static void same(Object due, Object got) {
         if (!plain(due).equals(got)) {
             wrong++;
             if (wrong <= 20) {
-                System.out.println(new Throwable().getStackTrace()[depth] + ": answered " + got + ", due is " + due);
+                System.out.println(lineOfTest() + ": answered " + got + ", due is " + due);
             }
         }
+    }
+
+    private static String lineOfTest() {
+        for (StackTraceElement frame : new Throwable().getStackTrace()) {
+            if (frame.getClassName().endsWith("Test")) {
+                return frame.toString();
+            }
+        }
+        return "some test";
     }
 
     private static Object plain(Object value) {

@@ -2,6 +2,7 @@
 final class HeatTest {
     public static void main(String[] args) {
         hardening();
+        cutGrowth();
         cleanness();
         casesAndGrinding();
         burning();
@@ -45,6 +46,19 @@ final class HeatTest {
         x.cut(5, 2, 0);
         Check.is(600 + 20000, () -> x.harden(5, 4, false));
         Check.is(1000, () -> x.caseOf(5));
+    }
+
+    /** 3 times 33333 is just too little for a growth of 10, and 3 times 33334 is enough. */
+    private static void cutGrowth() {
+        int[][] gears = {{41, 813, 9}, {14, 2381, 10}};
+        for (int[] gear : gears) {
+            Hobhouse x = new Hobhouse();
+            x.gear(gear[0], gear[1], 0, 99999);
+            x.hob(gear[1], 1, 60000, 20);
+            x.cut(0, 0, 0);
+            // The warp is 33333 33333 / 99999 / 2000, 5 and a bit, of which 2 are left in a press.
+            Check.is(gear[2] + 2, () -> x.harden(0, 1, true));
+        }
     }
 
     private static void cleanness() {

@@ -9,6 +9,7 @@ final class StrengthTest {
             anyGear(random, i);
         }
         pressedTeeth();
+        narrowPressing();
         sixthOfTheModule();
         lifeOfOneTurn();
         groundCase();
@@ -97,6 +98,19 @@ final class StrengthTest {
                 x.harden(0, 1, true);
                 Check.is(dueTorque(teeth, 10000, width, 300, 1000), () -> x.bears(0));
             }
+        }
+    }
+
+    /** Gears whose pressing by a torque more is the square of 601, or a bit less if any number were cut by one. */
+    private static void narrowPressing() {
+        int[][] gears = {{6, 2936, 67799, 37}, {6, 5050, 74778, 123}, {6, 5344, 26922, 49}, {6, 6681, 93721, 271}};
+        for (int[] gear : gears) {
+            Hobhouse x = new Hobhouse();
+            x.gear(gear[0], gear[1], 0, gear[2]);
+            Check.is(gear[3], () -> x.bears(0));
+            Check.equal(gear[3], dueTorque(gear[0], gear[1], gear[2], 200, 600));
+            Check.is(-1, () -> x.life(0, gear[3]));
+            Check.equal(true, x.life(0, gear[3] + 1) > 0);
         }
     }
 
