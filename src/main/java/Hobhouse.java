@@ -1093,7 +1093,7 @@ public final class Hobhouse {
 
         private int sumOfClass(int start, int period) {
             int sum = 0;
-            for (int k = start; k < errors.length; k += period) {
+            for (int k = start; period > 0 && k < errors.length; k += period) {
                 sum += errors[k];
             }
             return sum;
@@ -1375,30 +1375,30 @@ public final class Hobhouse {
                 partners[i] = NONE;
                 bestPartners[i] = NONE;
             }
-            choose(0, many, 0);
+            choose(this, 0, many, 0);
             return leastSum < GREATEST_INT;
         }
 
         /** Goes from first to first, at most to the fifth, so that earlier choices come earlier in the document's order. */
-        private void choose(int at, int left, int sum) {
+        private static void choose(Matching all, int at, int left, int sum) {
             if (left == 0) {
-                keepIfLess(sum);
+                all.keepIfLess(sum);
                 return;
             }
-            if (at >= firstCount) {
+            if (at >= all.firstCount || at >= MOST_LOOKED_AT) {
                 return;
             }
-            for (int j = 0; j < secondCount; j++) {
-                int peak = peaks[at * MOST_LOOKED_AT + j];
-                if (peak != NONE && !isTaken[j]) {
-                    isTaken[j] = true;
-                    partners[at] = j;
-                    choose(at + 1, left - 1, sum + peak);
-                    partners[at] = NONE;
-                    isTaken[j] = false;
+            for (int j = 0; j < all.secondCount; j++) {
+                int peak = all.peaks[at * MOST_LOOKED_AT + j];
+                if (peak != NONE && !all.isTaken[j]) {
+                    all.isTaken[j] = true;
+                    all.partners[at] = j;
+                    choose(all, at + 1, left - 1, sum + peak);
+                    all.partners[at] = NONE;
+                    all.isTaken[j] = false;
                 }
             }
-            choose(at + 1, left, sum);
+            choose(all, at + 1, left, sum);
         }
 
         private void keepIfLess(int sum) {
